@@ -3,7 +3,7 @@ final class Report {
     private static final int TOLD_PER_SENTENCE = 5;
 
     private static String sentence = "";
-    private static int sentences = 0;
+    private static int tests = 0;
     private static int broken = 0;
     private static int wrongHere = 0;
 
@@ -12,7 +12,7 @@ final class Report {
     /** Tests one sentence; an exception breaks it, as no call of the document throws. */
     static void sentence(String where, String words, Runnable test) {
         sentence = where + ": \"" + words + "\"";
-        sentences++;
+        tests++;
         wrongHere = 0;
         try {
             test.run();
@@ -35,8 +35,8 @@ final class Report {
     }
 
     static void end() {
-        System.out.println(sentences + " sentences tested, " + broken + " broken");
-        if (broken != 0 || sentences == 0) {
+        System.out.println(tests + " tests, each of one sentence: " + broken + " failed");
+        if (broken != 0 || tests == 0) {
             System.exit(1);
         }
     }
