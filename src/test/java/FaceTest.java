@@ -5,7 +5,7 @@ import java.lang.reflect.Modifier;
 import java.util.Set;
 import java.util.TreeSet;
 
-/** The class has the document's public face and shows no other member. */
+/** The class has the document's public face and shows no other member but classes, as LANGUAGE.md's rule 1 asks. */
 public final class FaceTest {
     private static final Set<String> DUE = Set.of(
         "public final class ModeKeeper",
@@ -36,7 +36,19 @@ public final class FaceTest {
         for (Method m : ModeKeeper.class.getDeclaredMethods()) {
             if (!Modifier.isPrivate(m.getModifiers())) shown.add(m.toString());
         }
+        for (Class<?> c : ModeKeeper.class.getDeclaredClasses()) {
+            boolean isOpen = Modifier.isPublic(c.getModifiers()) || Modifier.isProtected(c.getModifiers());
+            if (isOpen || !Modifier.isStatic(c.getModifiers())) shown.add(c.toGenericString());
+        }
         return shown;
+    }
+
+    private static Set<String> namesOfMethods(boolean isPrivate) {
+        Set<String> names = new TreeSet<>();
+        for (Method m : ModeKeeper.class.getDeclaredMethods()) {
+            if (Modifier.isPrivate(m.getModifiers()) == isPrivate) names.add(m.getName());
+        }
+        return names;
     }
 
     public static void main(String[] args) {
@@ -50,7 +62,12 @@ public final class FaceTest {
         for (String member : tooMany) {
             System.out.println("not in the document: " + member);
         }
-        if (!missing.isEmpty() || !tooMany.isEmpty()) {
+        Set<String> twice = namesOfMethods(true);
+        twice.retainAll(namesOfMethods(false));
+        for (String name : twice) {
+            System.out.println("a private method bears the name of a public one: " + name);
+        }
+        if (!missing.isEmpty() || !tooMany.isEmpty() || !twice.isEmpty()) {
             System.exit(1);
         }
         System.out.println("the face is as due");
